@@ -58,6 +58,13 @@ public final class FutureTest {
     HopscotchCourt x = Courts.of("court two one two;player a reach 1 owns 3;player b reach 1;");
     check.due("17 an owned one is none to own", x.bestClaim(1), 1);
     check.due("17 the others have nothing", x.bestClaim(0), 1);
+    HopscotchCourt last = Courts.of("court one one;player a owns 1;player b;");
+    check.due("17 the last one", last.bestClaim(1), 2);
+    HopscotchCourt two = Courts.of("court two one two;player a reach 1;player b;");
+    check.due("17 by what the first player loses", two.bestClaim(1), 3);
+    HopscotchCourt six = Courts.of("court two one two;player a reach 1;player b;player c;player d;"
+        + "player e;player f;");
+    check.due("17 of six players", six.bestClaim(5), 3);
     HopscotchCourt y = Courts.of("court one one;player a owns 2;player b;");
     check.due("17 the only one", y.bestClaim(1), 1);
     y.setPlayer(1, 3, 1);
@@ -145,6 +152,8 @@ public final class FutureTest {
         + y.cost(3, false) + y.cost(3, true);
     check.due("13 all costs", sum, 52);
     check.dueReal("20 of three", y.meanCost(), 52.0 / 3.0);
+    HopscotchCourt six = Courts.of("court one one;player a;player b;player c;player d;player e;player f;");
+    check.dueReal("20 of six", six.meanCost(), 8.0);
     HopscotchCourt z = Courts.of("court one one;player a owns 1 owns 2;player b;");
     check.dueReal("20 not of one without target", z.meanCost(), 8.0);
   }

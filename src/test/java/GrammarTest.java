@@ -16,6 +16,7 @@ public final class GrammarTest {
     players();
     spacesAndOtherBytes();
     lengths();
+    nothingOfOlderTexts();
     forbiddenTargets();
     check.end();
   }
@@ -45,6 +46,12 @@ public final class GrammarTest {
     due("court one^;player a;player b;", SYNTAX);
     due("court^;", SYNTAX);
     due("court one ^three;", SYNTAX);
+    due("^kourt one one;player a;player b;", SYNTAX);
+    due("court one ^xne;player a;player b;", SYNTAX);
+    due("court one ^twx;player a;player b;", SYNTAX);
+    due("court one one;^drixt 1;player a;player b;", SYNTAX);
+    due("court one one;^xlayer a;player b;", SYNTAX);
+    due("court one one;player a ^teach 1;player b;", SYNTAX);
     due("court one ^onetwo;", SYNTAX);
     due("court one one^,", SYNTAX);
     due("court one one ^1;", SYNTAX);
@@ -197,6 +204,22 @@ public final class GrammarTest {
     due("court one one;player a reach ^" + "9".repeat(571), VALUE);
     due("^" + "a".repeat(600), SYNTAX);
     due("court one one;player a ^" + "a".repeat(577), SYNTAX);
+  }
+
+  private static void nothingOfOlderTexts() {
+    String text = "court one one;drift -1;player a reach 1 owns 12;player b;";
+    for (int end = 0; end < text.length(); end++) {
+      HopscotchCourt x = new HopscotchCourt();
+      HopscotchCourt y = new HopscotchCourt();
+      Courts.load(x, text);
+      check.due("load behind another one up to " + end, Courts.load(x, text.substring(0, end)),
+          Courts.load(y, text.substring(0, end)));
+      check.due("position up to " + end, x.errorPosition(), y.errorPosition());
+    }
+    HopscotchCourt z = new HopscotchCourt();
+    Courts.load(z, text);
+    check.due("an end ahead of an old sign", Courts.load(z, "court one one"), SYNTAX);
+    check.due("its position", z.errorPosition(), 13);
   }
 
   private static void forbiddenTargets() {

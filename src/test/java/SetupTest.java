@@ -8,7 +8,9 @@ public final class SetupTest {
     aNewObjectHoldsNothing();
     appendPacksBytes();
     appendRefusesWhatIsTooLong();
+    appendCountsBytesOfAllKinds();
     loadReplacesTheCourt();
+    loadLeavesNothingOfAnyCourtBefore();
     loadKeepsTheCourtAfterAnError();
     errorPositionIsTheLatest();
     countTellsTheCourt();
@@ -79,6 +81,44 @@ public final class SetupTest {
     check.due("2 nothing at 600", x.append(0, 0, 0, 0, 0), 600);
     check.due("2 all read", x.load(), HopscotchCourt.SYNTAX_ERROR);
     check.due("2 to its end", x.errorPosition(), 600);
+  }
+
+  private static void appendCountsBytesOfAllKinds() {
+    for (int bit = 0; bit < 32; bit++) {
+      HopscotchCourt x = new HopscotchCourt();
+      Courts.append(x, " ".repeat(599));
+      int one = 1 << bit;
+      int two = one | Integer.rotateLeft(one, 8);
+      check.dueState("2 two bytes more", () -> x.append(0, two, 0, 0, 0));
+      check.due("2 one byte more", x.append(0, 0, 0, one, 0), 600);
+      check.dueState("2 none more", () -> x.append(one, 0, 0, 0, 0));
+    }
+  }
+
+  private static void loadLeavesNothingOfAnyCourtBefore() {
+    HopscotchCourt x = Courts.of("court two two two;drift 4;player abc owns 6 marker 6;"
+        + "player b claims 1 owns 1;player c;");
+    x.firstThrough();
+    Courts.load(x, "court one one;player ab owns 2 marker 2;player");
+    x.turnsToCrown(1);
+    check.due("3 load", Courts.load(x, "court one one;player z;player y;"), 2);
+    int[] counts = {2, 2, 2, 0, 0, 0, 0, 0, 0, 0, -1};
+    for (int what = 0; what < counts.length; what++) {
+      check.due("3 count " + what, x.count(what), counts[what]);
+    }
+    int[] numbers = {2, 3, 1, 0, 0, -1, 0, 0, 0, 0};
+    for (int what = 0; what < numbers.length; what++) {
+      check.due("3 player 0 " + what, x.player(0, what), numbers[what]);
+      check.due("3 player 1 " + what, x.player(1, what), numbers[what]);
+    }
+    for (int square = 1; square <= 2; square++) {
+      for (int what = 2; what <= 4; what++) {
+        check.due("3 square " + square + " " + what, x.square(square, what), what == 2 ? -1 : 0);
+      }
+    }
+    x.setPlayer(0, 3, 1);
+    x.claim(0, 1);
+    check.dueText("3 the name", Courts.written(x), "1@z 2");
   }
 
   private static void loadReplacesTheCourt() {
@@ -192,6 +232,9 @@ public final class SetupTest {
 
   private static void squareTellsItsNumbers() {
     HopscotchCourt x = Courts.of("court one two one two;player a owns 3;player b marker 5;player c marker 5;");
+    HopscotchCourt all = Courts.of("court one two;player a marker 2;player b marker 2;player c marker 3;"
+        + "player d marker 2;player e;player f marker 2;");
+    check.due("7 markers of six players", all.square(2, 3), 0b101011);
     int[] rows = {0, 1, 1, 2, 3, 3};
     int[] sides = {0, 0, 1, 0, 0, 1};
     for (int square = 1; square <= 6; square++) {

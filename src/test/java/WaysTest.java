@@ -8,6 +8,7 @@ public final class WaysTest {
     throwFaultRefusesWrongThrows();
     bestThrowIsTheLeast();
     aWayIsTheCheapest();
+    aWayMayHaveElevenHops();
     ofWaysTheOneThatHopsLessFarFirst();
     balanceEndsBehindShakyLandings();
     firmLandingsAreRests();
@@ -123,6 +124,11 @@ public final class WaysTest {
         0, "0 1 2 3", 4, "2 1 0 -100", 4);
   }
 
+  private static void aWayMayHaveElevenHops() {
+    ways("court two two two two two two two two two two;player a reach 1 balance 1;player b;",
+        0, "0 1 2 3 4 5 6 7 8 9 10", 11, "9 8 7 6 5 4 3 2 1 0 -100", 11);
+  }
+
   private static void ofWaysTheOneThatHopsLessFarFirst() {
     // With one landing at most it is 2 and 3 rows, or 3 and 2.
     ways("court one one one one;player a reach 3 balance 1 target 4;player b;",
@@ -195,6 +201,9 @@ public final class WaysTest {
     HopscotchCourt x = Courts.of("court one one;player a owns 1;player b owns 2;player c;");
     ways("no target", x, 2, -1, "", -1, "", -1);
     check.due("15 no target", x.leastReach(2), -1);
+    x.setPlayer(2, 0, 4);
+    ways("no target, though one hop would do", x, 2, -1, "", -1, "", -1);
+    check.due("15 no target by any reach", x.leastReach(2), -1);
   }
 
   private static void onlyOneWay() {
