@@ -49,6 +49,44 @@ final class Check {
     dueThrow(call, IllegalStateException.class, made);
   }
 
+  /** What load answers to a new court, and where its error is: where the sign ^ stands. */
+  void dueLoad(String marked, int answer) {
+    int at = marked.indexOf('^');
+    String text = at < 0 ? marked : marked.substring(0, at) + marked.substring(at + 1);
+    HopscotchCourt x = new HopscotchCourt();
+    due("load " + marked, Courts.load(x, text), answer);
+    due("position in " + marked, x.errorPosition(), at);
+  }
+
+  void dueCounts(HopscotchCourt x, int... counts) {
+    for (int what = 0; what < counts.length; what++) {
+      due("count " + what, x.count(what), counts[what]);
+    }
+  }
+
+  void dueNumbers(HopscotchCourt x, int player, int... numbers) {
+    for (int what = 0; what < numbers.length; what++) {
+      due("player " + player + " " + what, x.player(player, what), numbers[what]);
+    }
+  }
+
+  void dueLandings(HopscotchCourt x, int... landings) {
+    for (int square = 1; square <= landings.length; square++) {
+      due("landings on " + square, x.square(square, 4), landings[square - 1]);
+    }
+  }
+
+  /** A way is told by its places, such as "0 2"; with an empty text there is none. */
+  void dueWay(HopscotchCourt x, int player, boolean back, String way, int cost) {
+    String name = (back ? "way back of " : "way out of ") + player;
+    dueText(name, Courts.way(x, player, back), way);
+    due("cost of the " + name, x.cost(player, back), cost);
+  }
+
+  int wrong() {
+    return wrong;
+  }
+
   void end() {
     if (wrong > 0) {
       System.out.println(wrong + " wrong answers");
@@ -56,7 +94,7 @@ final class Check {
     }
   }
 
-  private void tell(String call, String got, String want) {
+  void tell(String call, String got, String want) {
     wrong++;
     if (wrong <= 50) {
       System.out.println(call + " answered " + got + ", due is " + want);

@@ -34,6 +34,25 @@ final class Courts {
     return four;
   }
 
+  /** All that the calls of the setup tell; it makes at most 181 calls, of a small court 43. */
+  static String told(HopscotchCourt court) {
+    StringBuilder told = new StringBuilder();
+    for (int what = 0; what <= 10; what++) {
+      told.append(' ').append(court.count(what));
+    }
+    for (int player = 0; player < court.count(2); player++) {
+      for (int what = 0; what <= 9; what++) {
+        told.append(' ').append(court.player(player, what));
+      }
+    }
+    for (int square = 1; square <= court.count(1); square++) {
+      for (int what = 0; what <= 4; what++) {
+        told.append(' ').append(court.square(square, what));
+      }
+    }
+    return told.toString();
+  }
+
   static String written(HopscotchCourt court) {
     StringBuilder text = new StringBuilder();
     int length = court.writeCourt();

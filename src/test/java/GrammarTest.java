@@ -21,13 +21,8 @@ public final class GrammarTest {
     check.end();
   }
 
-  /** The answer that is due, and the error's position: where the sign ^ stands in the text. */
   private static void due(String marked, int answer) {
-    int at = marked.indexOf('^');
-    String text = at < 0 ? marked : marked.substring(0, at) + marked.substring(at + 1);
-    HopscotchCourt x = new HopscotchCourt();
-    check.due("load " + marked, Courts.load(x, text), answer);
-    check.due("position in " + marked, x.errorPosition(), at);
+    check.dueLoad(marked, answer);
   }
 
   private static void dueNumber(String text, int player, int what, int number) {
