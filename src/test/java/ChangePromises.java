@@ -20,7 +20,7 @@ final class ChangePromises {
   @Sentence("Returns the fault; 0 without one.")
   static void promise22TheFaultIs0To5(Check check) {
     String[] texts = {"", "", "", "", " reach 1", " reach 3"};
-    int[] powers = {1, 20, 20 - 10, 11, 1, 1};
+    int[] powers = {1, 20, 10, 11, 1, 1};
     for (int fault = 0; fault <= 5; fault++) {
       HopscotchCourt x = Courts.of("court one one;player a" + texts[fault] + ";player b" + (fault == 5 ? " marker 2;" : ";"));
       check.due("fault", x.turn(powers[fault], 0), fault);

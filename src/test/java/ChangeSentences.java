@@ -13,38 +13,26 @@ final class ChangeSentences {
       + " succeed")
   static void section6EachOfTheNineCallsIsAChange(Check check) {
     for (int call = 0; call < 9; call++) {
-      HopscotchCourt x = new HopscotchCourt();
-      x.setPlayer(1, 3, 1);
-      x.mark(0, 2);
+      HopscotchCourt x = Courts.of("court one one;player a;player b claims 1 owns 2;");
       x.save(0);
-      check.due("ahead of it", x.undo(), 1);
-      check.due("ahead of it", x.undo(), 0);
-      x.setPlayer(1, 3, 1);
       String before = Courts.told(x);
-      if (call == 3) {
-        x.claim(1, 2);
-        before = Courts.told(x);
-      }
-      int due = call == 3 ? 2 : 1;
-      int[] answers = {0, 0, 1, 1, 1, 9, 2, -1, 0};
-      check.due("call " + call, change(x, call), answers[call] + (call == 0 ? 2 : 0));
-      check.due("undo of call " + call, x.undo(), due);
-      check.dueText("behind undo of call " + call, Courts.told(x), before);
+      change(x, call);
+      check.due("undo of change " + call, x.undo(), 1);
+      check.dueText("behind undo of change " + call, Courts.told(x), before);
     }
   }
 
-  /** One of the nine changes; 3 releases what was claimed, and 4 claims. */
-  private static int change(HopscotchCourt x, int call) {
+  private static void change(HopscotchCourt x, int call) {
     switch (call) {
-      case 0: return Courts.load(x, "court one one;player c;player d;");
-      case 1: return x.turn(1, 0);
-      case 2: return x.pass();
-      case 3: return x.release(2);
-      case 4: return x.claim(1, 1);
-      case 5: return x.setDrift(3);
-      case 6: return x.setPlayer(0, 0, 4);
-      case 7: return x.mark(0, 1);
-      default: return x.restore(0);
+      case 0: Courts.load(x, "court one one;player c;player d;"); break;
+      case 1: x.turn(1, 0); break;
+      case 2: x.pass(); break;
+      case 3: x.release(2); break;
+      case 4: x.claim(1, 1); break;
+      case 5: x.setDrift(3); break;
+      case 6: x.setPlayer(0, 0, 4); break;
+      case 7: x.mark(0, 1); break;
+      default: x.restore(0);
     }
   }
 

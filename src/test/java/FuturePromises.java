@@ -63,6 +63,24 @@ final class FuturePromises {
     check.due("but by a", x.bestClaim(1), 2);
   }
 
+  @Sentence("so that the other players together would lose most")
+  static void promise17WhatThePlayerWinsDoesNotCount(Check check) {
+    // On a square 1 of its own a would rest, and could play 2 too; b has nothing to lose.
+    HopscotchCourt x = Courts.of("court one one one;player a balance 1;player b reach 1;");
+    check.due("of a", x.playable(0), 2);
+    check.due("of b", x.playable(1), 0);
+    check.due("the lowest", x.bestClaim(0), 1);
+  }
+
+  @Sentence("the other players together would lose most")
+  static void promise17EachOfTheOthersCounts(Check check) {
+    // By balance 1 there is nothing to lose; the other one loses most by the narrow row.
+    HopscotchCourt x = Courts.of("court two one two;player a reach 1;player b;player c reach 1 balance 1;");
+    check.due("of the first", x.bestClaim(1), 3);
+    HopscotchCourt y = Courts.of("court two one two;player a reach 1 balance 1;player b;player c reach 1;");
+    check.due("of the last", y.bestClaim(1), 3);
+  }
+
   @Sentence("the other players together would lose most")
   static void promise17FiveOthersAreTheMost(Check check) {
     HopscotchCourt x = Courts.of("court two one two;player a reach 1;player b;player c;player d;player e;player f;");
@@ -155,6 +173,20 @@ final class FuturePromises {
     check.due("twenty rounds of six", x.turnsToCrown(5), 120);
     x.turn(1, 0);
     check.due("one less", x.turnsToCrown(5), 119);
+  }
+
+  @Sentence("at most 300")
+  static void promise18AGameWithManyStandstills(Check check) {
+    // The markers laid by hand hold some players up, whose own markers then hold up others.
+    HopscotchCourt x = Courts.of("court two two two two two two two two two two;player a reach 2 balance 1 target 3"
+        + " marker 12;player b reach 3 balance 1 target 4;player c reach 2 balance 9 target 11 marker 1;player d reach 3"
+        + " balance 1 target 5 marker 13;player e reach 3 balance 8 target 8 marker 6;player f reach 1 balance 1 target 1"
+        + " owns 1 owns 5 owns 11 marker 7;");
+    int[] turns = {127, 110, 69, 100, 83, 156};
+    for (int player = 0; player < 6; player++) {
+      check.due("turns of " + player, x.turnsToCrown(player), turns[player]);
+    }
+    check.due("the first", x.firstThrough(), 2);
   }
 
   @Sentence("NONE if it takes more.")

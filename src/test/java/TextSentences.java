@@ -76,7 +76,7 @@ final class TextSentences {
     check.dueLoad("court one ^tw;player a;player b;", SYNTAX);
     check.dueLoad("court one ^1;player a;player b;", SYNTAX);
     check.dueLoad("court one ^One;player a;player b;", SYNTAX);
-    check.dueLoad("court one,one;player a;player b;".replace(",", "^,"), SYNTAX);
+    check.dueLoad("court one^,one;player a;player b;", SYNTAX);
   }
 
   @Sentence("player = \"player\" NAME [ \"reach\" N ] [ \"balance\" N ] [ \"target\" N ] [ \"claims\" N ] { \"owns\" N }"

@@ -171,7 +171,7 @@ final class TurnSentences {
     check.due("turn", x.turn(11, 1), 0);
     check.dueNumbers(x, 0, 3, 3, 3, 1, 1, -1, 8, 1, 0, 0);
     HopscotchCourt y = Courts.of("court one one;player a reach 3 target 1;player b owns 2;");
-    check.due("turn", y.turn(1, 0), 3 + 2);
+    check.due("turn", y.turn(1, 0), 5);
     HopscotchCourt z = Courts.of("court one one;player a reach 3 target 2;player b owns 1;");
     check.due("turn", z.turn(11, 0), 0);
     check.due("the only square once more", z.player(0, 2), 2);
