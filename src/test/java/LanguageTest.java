@@ -8,6 +8,8 @@ import java.nio.file.Path;
 import java.util.ArrayList;
 import java.util.Arrays;
 import java.util.List;
+import java.util.Map;
+import java.util.TreeMap;
 import java.util.TreeSet;
 import java.util.regex.Matcher;
 import java.util.regex.Pattern;
@@ -41,6 +43,7 @@ public final class LanguageTest {
     nothingForbiddenIsWritten(withoutComments(text));
     objectsAreMadeInConstructors(withoutComments(text));
     methodsAreShort(text);
+    callsAreAtMostEightDeep(withoutComments(text));
     check.end();
   }
 
@@ -155,5 +158,36 @@ public final class LanguageTest {
       }
       due("a line of at most 100 signs: " + (k + 1), lines[k].length() <= 100);
     }
+  }
+
+  /** The library's calls count too; calls without an end (a recursion) are more than eight deep. */
+  private static void callsAreAtMostEightDeep(String text) {
+    Map<String, TreeSet<String>> calls = new TreeMap<>();
+    String method = "";
+    for (String line : text.split("\n")) {
+      Matcher head = Pattern.compile(" {2}( {2})?(public|private) .*?(\\w+)\\(.*").matcher(line);
+      if (head.matches()) {
+        method = head.group(3);
+        calls.computeIfAbsent(method, name -> new TreeSet<>());
+      } else {
+        Matcher call = Pattern.compile("(?<!new )\\b(\\w+)\\(").matcher(line);
+        while (call.find() && !method.isEmpty()) {
+          calls.get(method).add(call.group(1));
+        }
+      }
+    }
+    for (String name : calls.keySet()) {
+      check.due("calls more than eight deep from " + name, deepest(calls, name, 1) > 8 ? 1 : 0, 0);
+    }
+  }
+
+  private static int deepest(Map<String, TreeSet<String>> calls, String name, int depth) {
+    int deepest = depth;
+    if (depth <= 8 && calls.containsKey(name)) {
+      for (String called : calls.get(name)) {
+        deepest = Math.max(deepest, deepest(calls, called, depth + 1));
+      }
+    }
+    return deepest;
   }
 }
